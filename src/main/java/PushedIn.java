@@ -22,7 +22,8 @@ public final class PushedIn {
 
     private static final int KINDS = 8, ACTS = 4, TRACED = 24;
     private static final int FIRST = 1, NUMBER = 2, SORT = 3, QUICK = 4, LAST = 5, MIXED = 6, TOLD = 7;
-    private static final int[] KIND_ABOVE = {-1, 0, 0, FIRST, FIRST, 0, SORT, 0};
+    /** For each kind the one that it is under; none is above the first. */
+    private static final int[] KIND_ABOVE = {-1, 0, 0, 1, 1, 0, 3, 0};
 
     private static final int PLACES = 6, ROW_SORTS = 5, LONGEST_ROW = 60;
     private static final int BYTES = 0, SHORTS = 1, INTS = 2, BOOLEANS = 4;
@@ -825,7 +826,7 @@ public final class PushedIn {
         private final Yard yard;
         private final int[] chosen = new int[MOST_CHOSEN];
         private final int[] passers = new int[MOST_CHOSEN];
-        private final int[] passes = new int[SETS];
+        private final int[] fewest = new int[SETS];
         private int size;
 
         Passing(Yard yard) {
@@ -906,19 +907,19 @@ public final class PushedIn {
                 passers[i] = passersOf(i);
             }
             int sets = 1 << size;
-            passes[0] = 0;
+            fewest[0] = 0;
             for (int set = 1; set < sets && set < SETS; set++) {
                 int latestEarly = latestEarlyOf(set);
-                passes[set] = NO_WAY;
+                fewest[set] = NO_WAY;
                 for (int last = 0; last < size; last++) {
                     int rest = set & ~(1 << last);
                     if (rest != set && latestEarly <= yard.comers[chosen[last]].late) {
-                        int n = passes[rest] + Integer.bitCount(rest & passers[last]);
-                        passes[set] = Math.min(passes[set], n);
+                        int n = fewest[rest] + Integer.bitCount(rest & passers[last]);
+                        fewest[set] = Math.min(fewest[set], n);
                     }
                 }
             }
-            return passes[sets - 1];
+            return fewest[sets - 1];
         }
 
         private int chosenAt(int i, int otherwise) {

@@ -210,5 +210,27 @@ public final class LinesTest {
         due.is("slack", x.yard(1, 0), 0);
         due.is("and the one ahead of it", x.undo(), 38);
         due.is("is the latest of the forty", x.of(0, 1), 143);
+        PushedIn y = Due.yard("5-400@0m0s0", "5-400@0m0s0");
+        for (int i = 0; i < 12; i++) {
+            y.came(i % 2, 100 + i);
+            y.matter(i % 6, 1, 20 + i);
+            y.matter(i % 6, 0, 2 + i);
+            y.yard(1, 1 + i);
+        }
+        due.is("forty of all sorts", y.count(4), 40);
+        for (int i = 11; i >= 2; i--) {
+            due.is("slack of " + i, y.yard(1, 1 + i), 1 + i);
+            due.is("least of " + i, y.matter(i % 6, 0, 2 + i), 2 + i);
+            due.is("most of " + i, y.matter(i % 6, 1, 20 + i), 20 + i);
+            due.is("in of " + i, y.of(i % 2, 1), 100 + i);
+            for (int k = 0; k < 4; k++) {
+                due.is("undo of all sorts", y.undo(), 4 * (i - 2) + 3 - k);
+            }
+        }
+        due.is("slack kept", y.yard(1, 2), 2);
+        due.is("least kept", y.matter(1, 0, 3), 3);
+        due.is("least undone", y.matter(5, 0, 1), 1);
+        due.is("most kept", y.matter(1, 1, 21), 21);
+        due.is("in kept", y.of(1, 1), 101);
     }
 }

@@ -146,6 +146,7 @@ public final class PassedTest {
         x.yard(0, 1);
         Due.comer(x, "5-40@0m0s0");
         due.is("fewest of two days", x.fewest(17), -1);
+        due.is("fewest of one at minute 0", Due.yard("0-1@0m0s0").fewest(1), 0);
         // Each of five surely passes the first: five passes, not one.
         PushedIn y = Due.yard("1-99@0m0s0", "2-20@0m0s0", "3-20@1m0s0", "4-20@2m0s0", "5-20@3m0s0",
                 "6-40@0m0s0", "7-50@0m0s0");

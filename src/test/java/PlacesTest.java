@@ -109,7 +109,9 @@ public final class PlacesTest {
         due.is("row of 60", x.row(0, 2, 60), 1);
         due.is("its last", x.element(0, 59), 0);
         x.put(0, 59, 7);
+        x.put(0, 0, 7);
         due.is("a new row", x.row(0, 2, 60), 1);
+        due.is("is of zeros from the first", x.element(0, 0), 0);
         due.is("is of zeros", x.element(0, 59), 0);
     }
 

@@ -53,7 +53,8 @@ public final class RulesTest {
         due.is("text with a byte 0", x.text(), -100);
         String[] good = {
             "w", "0", "9999", "0000", "w?s", "w?s;m", "w;s;m;l;n;d;a;b", "w--s", "w-!s", "!!!!!!w", "((((((w))))))",
-            "!(!(!(w)))", "(w<s)<m", "w<s&s<m|m<l&l<n", "-1*-2/-3%-4", "w>20?50;s=a&!d;l-n", "------1------1",
+            "!(!(!(w)))", "(w<s)<m", "w<s&s<m|m<l&l<n", "-1*-2/-3%-4", "w?((((((w))))))", "((((((w))))))?!!!!!!w",
+            "w>20?50;s=a&!d;l-n", "------1------1",
         };
         for (String text : good) {
             due.is("text " + text, Due.text(x, text), 1);
@@ -134,6 +135,8 @@ public final class RulesTest {
         due.is("a text of 60", Due.text(x, "s" + "+1".repeat(29) + "+"), -160);
         due.is("a text of 59", Due.text(x, "s" + "+1".repeat(29)), 1);
         due.is("by the long text", x.next(0, 0, 30), 1);
+        due.is("a text of 60 that is one", Due.text(x, "-s" + "+1".repeat(29)), 1);
+        due.is("by the longest text", x.next(0, 0, 30), 0);
         due.is("a long text of lines", Due.text(x, "0?1;".repeat(14) + "s=4"), 1);
         due.is("by its last line", x.next(0, 0, 30), 1);
         due.is("open ones behind one another", Due.text(x, "((((((s))))))-!!!!!!1*------1+(s)"), 1);
