@@ -481,12 +481,14 @@ public final class PushedIn {
         return false;
     }
 
-    /** Bytes that wait to become a comer or a text. */
+    /** Bytes that wait to become a comer or a text, and how far they were read. */
     private static final class Tape {
         private static final int END = -1;
 
-        final byte[] bytes = new byte[TAPE];
+        private final byte[] bytes = new byte[TAPE];
+        private int place;
         int length;
+        int fault;
 
         void add(int n, int v) {
             for (int i = 0; i < n && length < TAPE; i++) {
@@ -495,12 +497,48 @@ public final class PushedIn {
             }
         }
 
-        int at(int place) {
-            return within(place, length) ? bytes[place] & 255 : END;
-        }
-
         void clear() {
             length = 0;
+        }
+
+        void rewind() {
+            place = 0;
+            fault = NO_FAULT;
+        }
+
+        /** The sign that is to be read; the end, too, behind a fault: nothing goes on there. */
+        int sign() {
+            return fault == NO_FAULT && place < length ? bytes[place] & 255 : END;
+        }
+
+        boolean accept(int sign) {
+            if (sign() != sign) {
+                return false;
+            }
+            place++;
+            return true;
+        }
+
+        /** Reads a number; one that may not be is a fault at its first digit. */
+        int readNumber(int digits, int least, int most) {
+            int first = place;
+            int v = 0;
+            for (int i = 0; i < digits && isDigit(sign()); i++) {
+                v = v * 10 + sign() - '0';
+                place++;
+            }
+            if (place == first || v < least || v > most) {
+                place = first;
+                stop();
+            }
+            return v;
+        }
+
+        /** The first fault is the one that counts. */
+        void stop() {
+            if (fault == NO_FAULT) {
+                fault = place;
+            }
         }
     }
 
@@ -562,61 +600,36 @@ public final class PushedIn {
         }
     }
 
-    /** Reads the tape as a comer; behind the first fault every step is idle. */
+    /** Reads the tape as a comer. */
     private static final class ComerReader {
         private final Tape tape;
-        private int place;
-        private int fault;
 
         ComerReader(Tape tape) {
             this.tape = tape;
         }
 
         int readInto(Comer c) {
-            place = 0;
-            fault = NO_FAULT;
-            c.in = readNumber(3, 0, MINUTES - 2);
+            tape.rewind();
+            c.in = tape.readNumber(3, 0, MINUTES - 2);
             expect('-');
-            c.out = readNumber(3, c.in + 1, MINUTES - 1);
+            c.out = tape.readNumber(3, c.in + 1, MINUTES - 1);
             expect('@');
-            c.door = readNumber(1, 0, DOORS - 1);
+            c.door = tape.readNumber(1, 0, DOORS - 1);
             expect('m');
-            c.matter = readNumber(1, 0, MATTERS - 1);
+            c.matter = tape.readNumber(1, 0, MATTERS - 1);
             expect('s');
-            c.sort = readNumber(1, 0, SORTS - 1);
-            c.number = accept('#') ? readNumber(2, 0, 99) : NO_NUMBER;
-            c.line = accept('l') ? readNumber(1, 0, DOORS - 1) : c.door;
-            expect(Tape.END);
-            return fault;
-        }
-
-        private int readNumber(int digits, int least, int most) {
-            if (fault != NO_FAULT) {
-                return 0;
+            c.sort = tape.readNumber(1, 0, SORTS - 1);
+            c.number = tape.accept('#') ? tape.readNumber(2, 0, 99) : NO_NUMBER;
+            c.line = tape.accept('l') ? tape.readNumber(1, 0, DOORS - 1) : c.door;
+            if (tape.sign() != Tape.END) {
+                tape.stop();
             }
-            int first = place;
-            int v = 0;
-            for (int i = 0; i < digits && isDigit(tape.at(place)); i++) {
-                v = v * 10 + tape.at(place) - '0';
-                place++;
-            }
-            if (place == first || v < least || v > most) {
-                fault = first;
-            }
-            return v;
-        }
-
-        private boolean accept(int sign) {
-            if (fault != NO_FAULT || tape.at(place) != sign) {
-                return false;
-            }
-            place++;
-            return true;
+            return tape.fault;
         }
 
         private void expect(int sign) {
-            if (!accept(sign) && fault == NO_FAULT) {
-                fault = place;
+            if (!tape.accept(sign)) {
+                tape.stop();
             }
         }
     }
@@ -1093,11 +1106,11 @@ public final class PushedIn {
 
     /**
      * A rule as a text: read from the tape into steps on a stack of ints, in which each
-     * sign stands behind what it joins. Behind the first fault reading is idle.
+     * sign stands behind what it joins.
      */
     private static final class Text {
         static final String NAMES = "wsmlndab";
-        private static final int OPEN = 6, DIGITS = 4;
+        private static final int OPEN = 6, NO_NAME = -1;
         /** Each byte of the tape makes one step at most, and the last line's end one more. */
         private static final int STEPS = TAPE + 1;
         /** Steps that have no sign of their own; a line's end is ';', a condition '?'. */
@@ -1108,8 +1121,6 @@ public final class PushedIn {
         private final int[] numbers = new int[STEPS];
         private final int[] stack = new int[STEPS];
         private int steps;
-        private int place;
-        private int fault;
 
         Text(Tape tape) {
             this.tape = tape;
@@ -1117,16 +1128,15 @@ public final class PushedIn {
 
         int read() {
             steps = 0;
-            place = 0;
-            fault = NO_FAULT;
+            tape.rewind();
             readLine();
-            for (int i = 0; i < TAPE && accept(';'); i++) {
+            for (int i = 0; i < TAPE && tape.accept(';'); i++) {
                 readLine();
             }
-            if (tape.at(place) != Tape.END) {
-                stop();
+            if (tape.sign() != Tape.END) {
+                tape.stop();
             }
-            return fault;
+            return tape.fault;
         }
 
         /** What the first line that counts is worth. */
@@ -1185,7 +1195,7 @@ public final class PushedIn {
         private void readLine() {
             readEither(0);
             int condition = steps;
-            if (!accept('?')) {
+            if (!tape.accept('?')) {
                 addStep(';', 0);
                 return;
             }
@@ -1199,7 +1209,7 @@ public final class PushedIn {
 
         private void readEither(int open) {
             readBoth(open);
-            for (int i = 0; i < TAPE && accept('|'); i++) {
+            for (int i = 0; i < TAPE && tape.accept('|'); i++) {
                 readBoth(open);
                 addStep('|', 0);
             }
@@ -1207,7 +1217,7 @@ public final class PushedIn {
 
         private void readBoth(int open) {
             readCompared(open);
-            for (int i = 0; i < TAPE && accept('&'); i++) {
+            for (int i = 0; i < TAPE && tape.accept('&'); i++) {
                 readCompared(open);
                 addStep('&', 0);
             }
@@ -1215,8 +1225,8 @@ public final class PushedIn {
 
         private void readCompared(int open) {
             readSum(open);
-            int sign = tape.at(place);
-            if (accept('<') || accept('=') || accept('>')) {
+            int sign = tape.sign();
+            if (tape.accept('<') || tape.accept('=') || tape.accept('>')) {
                 readSum(open);
                 addStep(sign, 0);
             }
@@ -1224,55 +1234,45 @@ public final class PushedIn {
 
         private void readSum(int open) {
             readProduct(open);
-            int sign = tape.at(place);
-            for (int i = 0; i < TAPE && (accept('+') || accept('-')); i++) {
+            int sign = tape.sign();
+            for (int i = 0; i < TAPE && (tape.accept('+') || tape.accept('-')); i++) {
                 readProduct(open);
                 addStep(sign, 0);
-                sign = tape.at(place);
+                sign = tape.sign();
             }
         }
 
         private void readProduct(int open) {
             readOperand(open);
-            int sign = tape.at(place);
-            for (int i = 0; i < TAPE && (accept('*') || accept('/') || accept('%')); i++) {
+            int sign = tape.sign();
+            for (int i = 0; i < TAPE && (tape.accept('*') || tape.accept('/') || tape.accept('%')); i++) {
                 readOperand(open);
                 addStep(sign, 0);
-                sign = tape.at(place);
+                sign = tape.sign();
             }
         }
 
         private void readOperand(int open) {
-            int sign = tape.at(place);
-            if (fault != NO_FAULT || sign == Tape.END) {
-                stop();
-            } else if (isDigit(sign)) {
-                readValue();
-            } else if (NAMES.indexOf((char) sign) >= 0) {
-                addStep(NAME, NAMES.indexOf((char) sign));
-                place++;
+            int sign = tape.sign();
+            int name = sign == Tape.END ? NO_NAME : NAMES.indexOf((char) sign);
+            if (isDigit(sign)) {
+                addStep(VALUE, tape.readNumber(4, 0, 9999));
+            } else if (name != NO_NAME) {
+                tape.accept(sign);
+                addStep(NAME, name);
             } else if (open >= OPEN) {
-                stop();
-            } else if (accept('(')) {
+                tape.stop();
+            } else if (tape.accept('(')) {
                 readEither(open + 1);
-                if (!accept(')')) {
-                    stop();
+                if (!tape.accept(')')) {
+                    tape.stop();
                 }
-            } else if (accept('!') || accept('-')) {
+            } else if (tape.accept('!') || tape.accept('-')) {
                 readOperand(open + 1);
                 addStep(sign == '-' ? MINUS : sign, 0);
             } else {
-                stop();
+                tape.stop();
             }
-        }
-
-        private void readValue() {
-            int v = 0;
-            for (int i = 0; i < DIGITS && isDigit(tape.at(place)); i++) {
-                v = v * 10 + tape.at(place) - '0';
-                place++;
-            }
-            addStep(VALUE, v);
         }
 
         private void addStep(int sign, int number) {
@@ -1280,20 +1280,6 @@ public final class PushedIn {
                 signs[steps] = sign;
                 numbers[steps] = number;
                 steps++;
-            }
-        }
-
-        private boolean accept(int sign) {
-            if (fault != NO_FAULT || tape.at(place) != sign) {
-                return false;
-            }
-            place++;
-            return true;
-        }
-
-        private void stop() {
-            if (fault == NO_FAULT) {
-                fault = place;
             }
         }
     }
