@@ -46,7 +46,7 @@ public final class ModelTest {
                 ask(name, calls.wild(name));
             } else {
                 String name = calls.anyName();
-                ask(name, calls.sensible(name, (int) program.count(0), (int) program.count(1)));
+                ask(name, calls.sensible(name, program.count(0), program.count(1)));
             }
         }
     }
