@@ -1,13 +1,11 @@
 import java.util.List;
-import java.util.Map;
 import java.util.function.Supplier;
 
 /** The paragraph on the answers, over all promises: which of several is given, and that a refusal changes nothing. */
 public final class AnswersEdgesTest {
     private static final Edges edge = new Edges();
     private static final List<Long> REFUSALS = List.of(-1L, -2L, -3L, -5L, -11L, -12L, -13L, -14L, Long.MIN_VALUE);
-    private static final Map<String, Supplier<PushedIn>> YARDS =
-            Map.of("empty", Yards.EMPTY, "busy", Yards.BUSY, "full", Yards.FULL);
+    private static final List<Supplier<PushedIn>> YARDS = List.of(Yards.EMPTY, Yards.BUSY, Yards.FULL);
 
     public static void main(String[] args) {
         badAheadOfFull();
@@ -95,16 +93,16 @@ public final class AnswersEdgesTest {
     private static void refusalsChangeNothing() {
         edge.says(0, "What is answered so changes nothing.");
         Calls calls = new Calls(5);
-        for (Map.Entry<String, Supplier<PushedIn>> yard : YARDS.entrySet()) {
-            PushedIn x = yard.getValue().get();
+        for (Supplier<PushedIn> yard : YARDS) {
+            PushedIn x = yard.get();
             int comers = x.count(0);
             int rules = x.count(1);
             for (String name : Calls.NAMES) {
                 for (int i = 0; i < 24 && !name.equals("act"); i++) {
                     long[] args = i % 2 == 0 ? calls.wild(name) : calls.sensible(name, comers, rules);
-                    long answer = Edges.answered(yard.getValue().get(), name, args);
+                    long answer = Edges.answered(yard.get(), name, args);
                     if (REFUSALS.contains(answer)) {
-                        edge.unchanged(yard.getValue(), name, args);
+                        edge.unchanged(yard, name, args);
                     }
                 }
             }
@@ -113,18 +111,18 @@ public final class AnswersEdgesTest {
 
     private static void objectsBesideOneAnother() {
         edge.says(0, "All memory is the class's own.");
-        for (Map.Entry<String, Supplier<PushedIn>> one : YARDS.entrySet()) {
-            for (Map.Entry<String, Supplier<PushedIn>> other : YARDS.entrySet()) {
-                List<Long> alone = Shown.of(one.getValue());
+        for (Supplier<PushedIn> one : YARDS) {
+            for (Supplier<PushedIn> other : YARDS) {
+                List<Long> alone = Shown.of(one);
                 List<Long> beside = Shown.of(() -> {
-                    PushedIn x = one.getValue().get();
-                    PushedIn y = other.getValue().get();
+                    PushedIn x = one.get();
+                    PushedIn y = other.get();
                     y.act(6, 3, 7);
                     Due.text(y, "1-s");
                     y.undo();
                     return x;
                 });
-                String what = one.getKey() + " beside " + other.getKey();
+                String what = YARDS.indexOf(one) + " beside " + YARDS.indexOf(other);
                 edge.is(what + " is as it is alone", alone.equals(beside) ? 1 : 0, 1);
             }
         }

@@ -105,6 +105,7 @@ public final class LinesEdgesTest {
         y.yard(0, 1);
         Due.comer(y, "1-60@1m0s0");
         idleIs("one of another day", y, 0, -2);
+        idleIs("the first comer of all", Due.yard("20-60@1m0s0", "1-20@0m0s0", "40-50@0m0s0"), 29, 20);
         idleIs("the next one itself", Due.yard("1-20@0m0s0", "39-50@0m0s0"), 1, 39);
         idleIs("two that wait: each minute once", Due.yard("1-20@0m0s0", "39-50@0m0s0", "30-60@1m0s0"), 19, 30);
     }
@@ -191,10 +192,14 @@ public final class LinesEdgesTest {
         y.start(2, 15);
         edge.is("-10 and 5 of sort 1", y.seldom(1, 7, 200), 140);
         edge.is("0 of sort 2", y.seldom(2, 7, 200), 126);
+        PushedIn ins = Due.yard("0-20@0m0s1", "19-30@1m0s2");
+        edge.is("10 is longer than 1, though it starts earlier", ins.seldom(1, 7, 200), 96);
         PushedIn z = Due.yard("0-20@0m0s1", "0-20@0m0s2");
         edge.is("it has neither", z.of(1, 9), -2);
         edge.is("0 of one with neither, or longer", z.seldom(2, 7, 200), 200);
         edge.is("its sort is drawn about, too", z.seldom(1, 7, 200), 96);
+        z.start(0, 0);
+        edge.is("0 of one with neither is as long as a wait of 0", z.seldom(2, 7, 200), 200);
     }
 
     private static void outAlong() {
@@ -239,6 +244,11 @@ public final class LinesEdgesTest {
         edge.is("of its comers in all", x.stand(0, 1), 2);
         Due.comer(x, "39-40@3m0s0");
         edge.is("one without starts", x.stand(0, 1), 2);
+        Due.comer(x, "27-30@1m0s0");
+        edge.is("like ones at 1 and 3", x.stand(0, 0), 1);
+        Due.comer(x, "26-30@0m0s0");
+        edge.is("3 at door 0", x.stand(0, 0), 0);
+        edge.is("that sum of door 0", x.stand(0, 1), 3);
         edge.is("of another day", x.stand(3, 1), 0);
     }
 
@@ -336,6 +346,41 @@ public final class LinesEdgesTest {
         edge.is("it is the latest", x.undo(), 39);
         edge.is("and can be done again", x.redo(), 0);
         edge.is("the number", x.matter(3, 0, 7), 7);
+        fortyOfAllSorts();
+    }
+
+    /** Of 45 changes the first five are kept no more; each of the others goes back and comes again as it was. */
+    private static void fortyOfAllSorts() {
+        PushedIn x = Due.yard("5-400@0m0s0", "5-400@0m0s0");
+        x.came(0, 50);
+        for (int i = 0; i < 11; i++) {
+            x.came(i % 2, 100 + i);
+            x.matter(i % 6, 1, 20 + i);
+            x.matter(i % 6, 0, 2 + i);
+            x.yard(1, 1 + i);
+        }
+        edge.is("forty of forty-five", x.count(4), 40);
+        for (int i = 10; i >= 1; i--) {
+            standAt(x, i);
+            for (int k = 0; k < 4; k++) {
+                edge.is("undone of all sorts", x.undo(), 4 * (i - 1) + 3 - k);
+            }
+        }
+        standAt(x, 0);
+        for (int i = 1; i <= 10; i++) {
+            for (int k = 0; k < 4; k++) {
+                edge.is("done again of all sorts", x.redo(), 4 * (10 - i) + 3 - k);
+            }
+            standAt(x, i);
+        }
+    }
+
+    /** The numbers that the i-th four changes told, told again: that is no change. */
+    private static void standAt(PushedIn x, int i) {
+        edge.is("in of " + i, x.of(i % 2, 1), 100 + i);
+        edge.is("most of " + i, x.matter(i % 6, 1, 20 + i), 20 + i);
+        edge.is("least of " + i, x.matter(i % 6, 0, 2 + i), 2 + i);
+        edge.is("slack of " + i, x.yard(1, 1 + i), 1 + i);
     }
 
     // ---- promises

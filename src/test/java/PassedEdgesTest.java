@@ -123,6 +123,7 @@ public final class PassedEdgesTest {
         edge.is("may of three", x.pairs(0, 1), 3);
         x.away(2, 34034);
         edge.is("may of two with starts", x.pairs(0, 1), 1);
+        edge.is("comer 0 passed comer 1", Due.yard("10-30@1m0s0", "5-40@0m0s0").pairs(0, 0), 1);
         PushedIn y = forty(true);
         edge.is("surely of forty", y.pairs(0, 0), 39);
         edge.is("may of forty", y.pairs(0, 1), 39);
@@ -219,6 +220,9 @@ public final class PassedEdgesTest {
         edge.says(0, "the fewest that can pass among them, over all STARTS of each.");
         edge.is("29 is less than 30: one surely", two(30).fewest(3), 1);
         edge.is("both can start at 30", two(31).fewest(3), 0);
+        edge.is("comer 0 surely passed comer 1", Due.yard("10-30@1m0s0", "5-40@0m0s0").fewest(3), 1);
+        edge.is("one that starts at minute 0", Due.yard("0-1@0m0s0").fewest(1), 0);
+        edge.is("two that start at minute 0", Due.yard("0-1@0m0s0", "0-1@1m0s0").fewest(3), 0);
         PushedIn x = Due.yard("1-40@0m0s0", "2-35@1m0s0", "3-30@2m0s0");
         edge.is("one surely passed", x.pairs(0, 0), 1);
         edge.is("three may have", x.pairs(0, 1), 3);

@@ -111,6 +111,10 @@ public final class RulesEdgesTest {
             edge.is("next at " + ts[i], x.next(0, 0, ts[i]), nexts[i]);
         }
         edge.is("of another day", x.next(0, 10, 20), -2);
+        PushedIn first = Due.yard("0-1@0m0s0");
+        first.rule(1, 0, 0);
+        edge.is("in and started at minute 0", first.next(0, 0, 0), 0);
+        edge.is("started ahead of minute 1", first.next(0, 0, 1), -2);
         x.start(0, 18);
         edge.is("at its told start", x.next(0, 0, 18), 0);
         edge.is("behind its told start, ahead of the other's in", x.next(0, 0, 19), -2);
@@ -514,6 +518,9 @@ public final class RulesEdgesTest {
         edge.is("the last rule of all", x.find(0), 4);
         PushedIn y = TWENTY.get();
         edge.is("the last of twenty", y.find(0), 19);
+        PushedIn z = Due.yard("6-30@1m0s1", "5-40@0m0s0");
+        z.rule(1, 0, 3);
+        edge.is("a break of comer 0", z.find(1), 13);
         edge.is("its price", y.find(1), 80);
     }
 
@@ -538,6 +545,11 @@ public final class RulesEdgesTest {
         x.start(1, 20);
         edge.is("told of one that has none", x.led(1), 0b110);
         edge.is("twenty rules", TWENTY.get().led(0), (1 << 20) - 1);
+        PushedIn first = Due.yard("0-1@0m0s0");
+        first.rule(1, 0, 0);
+        edge.is("next at minute 0", first.led(0), 1);
+        first.start(0, 0);
+        edge.is("told minute 0", first.led(0), 1);
     }
 
     // ---- promises
@@ -571,6 +583,8 @@ public final class RulesEdgesTest {
         edge.is("the text before stays", x.next(0, 0, 30), 1);
         edge.is("the longest tape", Due.text(x, "-s" + "+1".repeat(29)), 1);
         edge.is("the text is another", x.next(0, 0, 30), 0);
+        edge.is("the longest tape the other way about", Due.text(x, "-9+s" + "+1".repeat(28)), 1);
+        edge.is("it counts to its end", x.next(0, 0, 30), 1);
         edge.is("a comer is no text", Due.text(x, "5-9@0m0s0"), -103);
         edge.is("in a full yard, too", Yards.FULL.get().text(), -103);
     }

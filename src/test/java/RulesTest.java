@@ -42,11 +42,12 @@ public final class RulesTest {
             "w+((((((w))))))+(((((((w", "22", "w.", "1", "w,s", "1", "w<=s", "2", "w!s", "1", "w!=s", "1",
             "(w)(s)", "3", "(w)1", "3", "!!!!!!", "6",
         };
-        PushedIn x = new PushedIn();
         for (int i = 0; i < faulty.length; i += 2) {
+            PushedIn x = new PushedIn();
             due.is("text " + faulty[i], Due.text(x, faulty[i]), -100 - Integer.parseInt(faulty[i + 1]));
             due.is("the tape is empty behind a fault", x.count(2), 0);
         }
+        PushedIn x = new PushedIn();
         x.feed(2, 'w' | 200 << 8);
         due.is("text with a byte above 127", x.text(), -101);
         x.feed(1, 0);

@@ -509,6 +509,8 @@ public final class YardEdgesTest {
         edge.is("the second's sort", x.of(30, 5), 4);
         edge.is("from place 6 on", x.comers(0, 6, 2), 1);
         edge.says(7, "BAD, -12 (no ROW of shorts; a PLACE that holds nothing is missing).");
+        edge.bounds(Yards.BUSY, 0, 5, "comers", HERE, 0, 1);
+        edge.bounds(Yards.BUSY, 1, 12, "comers", 0, 0, HERE);
         edge.is("a place that holds nothing", new PushedIn().comers(5, 0, 1), 0);
         for (int sort = 0; sort < 5; sort++) {
             PushedIn y = new PushedIn();

@@ -137,12 +137,17 @@ public final class YardTest {
             "5-9@0m0s0#1l4", "12", "5-9@0m0s0l1#1", "11", "5-9@0m0s0l11", "11", "5-9@0m0s0##", "10",
             " 5-9@0m0s0", "0", "5 -9@0m0s0", "1", "5-9@0m0s0 ", "9", "5-9M", "3", "5-9@0M0", "5",
         };
-        PushedIn x = new PushedIn();
         for (int i = 0; i < faulty.length; i += 2) {
+            PushedIn x = new PushedIn();
             due.is("comer " + faulty[i], Due.comer(x, faulty[i]), -100 - Integer.parseInt(faulty[i + 1]));
             due.is("the tape is empty behind a fault", x.count(2), 0);
+            due.is("no comer of a fault", x.count(0), 0);
         }
-        due.is("no comer of a fault", x.count(0), 0);
+        comersTillFull();
+    }
+
+    private static void comersTillFull() {
+        PushedIn x = new PushedIn();
         String[] good = {"0-1@0m0s0", "718-719@3m5s7", "000-001@0m0s0#0", "5-9@0m0s0#99l3", "05-009@1m2s3l0"};
         int[][] wanted = {
             {0, 0, 1, 0, 0, 0, -1, 0}, {0, 718, 719, 3, 5, 7, -1, 3}, {0, 0, 1, 0, 0, 0, 0, 0},
