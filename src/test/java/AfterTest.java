@@ -1,3 +1,5 @@
+import java.util.ArrayList;
+import java.util.Collections;
 import java.util.HashSet;
 import java.util.LinkedHashMap;
 import java.util.List;
@@ -61,7 +63,13 @@ public final class AfterTest {
     /** These have nothing to do with one another, so it does not matter which comes first. */
     private static final List<String> IN_ANY_ORDER = List.of("comer()", "away(0, 37037)", "away(1, 28028)",
             "matter(0, 0, 7)", "matter(1, 1, 20)", "matter(2, 0, 7)", "yard(1, 3)", "yard(2, 1)", "start(0, 20)",
-            "start(3, -1)", "rule(5, 0, 0)", "row(1, 1, 3)", "put(0, 7, 0)", "keep(2, -1)", "came(1, 4)", "act(3, 1, 2)");
+            "start(3, -1)", "rule(5, 0, 0)", "row(1, 1, 3)", "put(0, 7, 0)", "keep(2, -1)", "came(1, 4)",
+            "act(3, 1, 2)");
+
+    /** Questions that change nothing, so that one yard can be asked all of them. */
+    private static final Set<String> ASKING = Set.of("of", "cant", "passed", "pairs", "judge", "whom", "fewest", "next",
+            "breaks", "kept", "find", "led", "changed", "idle", "seldom", "along", "stand", "trace", "element", "taken",
+            "count");
 
     private static final Set<String> altered = new HashSet<>();
 
@@ -78,6 +86,7 @@ public final class AfterTest {
         changesAreUndone();
         actsAndBytes();
         inAnyOrder();
+        oneBehindAnother();
         eachPromiseIsAskedAndAltered();
         due.end();
     }
@@ -269,6 +278,22 @@ public final class AfterTest {
             due.is(other + " " + one + ", in either order: " + asked,
                     answer(other + one, asked), answer(one + other, asked));
         }
+    }
+
+    /** What one question leaves behind inside must not alter the answer to another, nor to itself. */
+    private static void oneBehindAnother() {
+        List<String> questions = new ArrayList<>(ASKED.keySet());
+        questions.removeIf(asked -> !ASKING.contains(asked.substring(0, asked.indexOf('('))));
+        PushedIn x = new PushedIn();
+        Script.run(x, YARD);
+        for (int round = 0; round < 2; round++) {
+            for (String asked : questions) {
+                due.is("one behind another " + asked, Script.run(x, asked), ASKED.get(asked));
+                due.is("again at once " + asked, Script.run(x, asked), ASKED.get(asked));
+            }
+            Collections.reverse(questions);
+        }
+        due.holds("questions were asked", questions.size() > 60);
     }
 
     private static void eachPromiseIsAskedAndAltered() {

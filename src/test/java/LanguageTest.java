@@ -16,6 +16,22 @@ import java.util.regex.Pattern;
 /** The rules of LANGUAGE.md that can be seen from the file's text and from the compiled class. */
 public final class LanguageTest {
     private static final Due due = new Due();
+    private static final Set<Class<?>> CONSTANTS = Set.of(int.class, long.class, boolean.class, char.class,
+            String.class, int[].class, long[].class, char[].class, byte[].class);
+    private static final Set<String> LIBRARY = Set.of("java/lang/Object.<init>()V", "java/lang/Math.max(II)I",
+            "java/lang/Math.min(II)I", "java/lang/Math.abs(I)I", "java/lang/Integer.bitCount(I)I",
+            "java/lang/String.indexOf(I)I", "java/lang/String.length()I",
+            "java/lang/System.arraycopy(Ljava/lang/Object;ILjava/lang/Object;II)V");
+    private static final Set<String> RULED_OUT = Set.of("athrow", "checkcast", "instanceof", "monitorenter",
+            "monitorexit", "invokedynamic", "fadd", "dadd", "i2f", "i2d", "l2f", "l2d");
+    private static final Set<String> MAKING = Set.of("new", "newarray", "anewarray", "multianewarray");
+    /** These look at a divisor that is no constant, or have one that is above 0 by its own line. */
+    private static final Set<String> DIVIDING = Set.of("PushedIn$Text.joined", "PushedIn$Survey.drawAbout");
+    /** Guarded by the depth that they hand on: Acts.DEEPEST, Text.OPEN. */
+    private static final Set<String> CALLING_THEMSELVES = Set.of("PushedIn$Acts.own", "PushedIn$Acts.above",
+            "PushedIn$Acts.runFrom", "PushedIn$Acts.runBody", "PushedIn$Text.readEither", "PushedIn$Text.readBoth",
+            "PushedIn$Text.readCompared", "PushedIn$Text.readSum", "PushedIn$Text.readProduct",
+            "PushedIn$Text.readOperand");
 
     public static void main(String[] args) throws IOException {
         String source = Files.readString(Path.of("src/main/java/PushedIn.java"));
@@ -31,13 +47,16 @@ public final class LanguageTest {
     private static void words(String code) {
         String[] ruledOut = {
             "throw", "throws", "try", "catch", "finally", "synchronized", "assert", "import", "package", "native",
-            "volatile", "transient", "double", "float", "Object", "Class", "Thread", "var", "yield",
+            "volatile", "transient", "double", "float", "Object", "Class", "Thread", "var", "yield", "protected",
+            "equals", "hashCode", "toString", "getClass", "instanceof",
         };
         for (String word : ruledOut) {
             due.holds("no " + word, !Pattern.compile("\\b" + word + "\\b").matcher(code).find());
         }
         due.holds("no lambda", !code.contains("->"));
         due.holds("no method reference", !code.contains("::"));
+        due.holds("no class without a name", !Pattern.compile("new \\w+\\([^;]*\\) \\{").matcher(code).find());
+        due.holds("no block that begins a class", !Pattern.compile("\\bstatic \\{").matcher(code).find());
         due.holds("no annotation", !Pattern.compile("@[A-Z]").matcher(code).find());
         due.holds("plain signs alone", code.chars().allMatch(c -> c == '\n' || c >= 32 && c < 127));
     }
@@ -123,13 +142,55 @@ public final class LanguageTest {
         all.add(PushedIn.class);
         due.holds("twelve classes at most", all.size() <= 12);
         for (Class<?> c : all) {
-            int fields = 0;
-            for (Field f : c.getDeclaredFields()) {
-                boolean constant = Modifier.isStatic(f.getModifiers());
-                fields += constant ? 0 : 1;
-                due.holds(f + " is final", !constant || Modifier.isFinal(f.getModifiers()));
-            }
-            due.holds(c + " has twenty fields at most", fields <= 20);
+            fields(c);
         }
+        if (Bytecode.canBeRead()) {
+            bytecode(new Bytecode(all));
+        }
+    }
+
+    private static void fields(Class<?> c) {
+        int fields = 0;
+        for (Field f : c.getDeclaredFields()) {
+            if (Modifier.isStatic(f.getModifiers())) {
+                due.holds(f + " is a constant", Modifier.isFinal(f.getModifiers()) && CONSTANTS.contains(f.getType()));
+            } else {
+                fields++;
+                due.holds(f + " is of a type that may be", mayBe(f.getType()));
+            }
+        }
+        due.holds(c + " has twenty fields at most", fields <= 20);
+    }
+
+    /** Numbers, own classes, arrays of these of one dimension, arrays of two dimensions of numbers. */
+    private static boolean mayBe(Class<?> type) {
+        Class<?> of = type.isArray() ? type.getComponentType() : type;
+        boolean own = of == PushedIn.class || of.getDeclaringClass() == PushedIn.class;
+        return own || of.isPrimitive() || of.isArray() && of.getComponentType().isPrimitive();
+    }
+
+    private static void bytecode(Bytecode code) {
+        due.holds("the library's methods " + code.library, LIBRARY.containsAll(code.library));
+        code.steps.forEach((method, steps) -> {
+            boolean makes = method.endsWith(".<init>") || method.endsWith(".<clinit>");
+            for (String step : steps) {
+                due.holds(method + " has no " + step, !RULED_OUT.contains(step));
+                due.holds(method + " makes nothing", makes || !MAKING.contains(step));
+            }
+            due.holds(method + " divides by what was looked at",
+                    DIVIDING.contains(method) || dividesByConstants(steps));
+            due.holds(method + " is eight calls deep at most", code.depth(method) <= 8);
+        });
+        due.holds("methods that call themselves " + code.thatCallThemselves(),
+                code.thatCallThemselves().equals(CALLING_THEMSELVES));
+    }
+
+    private static boolean dividesByConstants(List<String> steps) {
+        for (int i = 1; i < steps.size(); i++) {
+            if (steps.get(i).matches("[il](div|rem)") && !steps.get(i - 1).matches("bipush|sipush|iconst_[1-5]")) {
+                return false;
+            }
+        }
+        return true;
     }
 }
